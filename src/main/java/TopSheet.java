@@ -15,14 +15,13 @@ public final class TopSheet {
     private static final int BILL = 1, WARRANT = 2, WILL = 3, BLANK = 4, SLATE = 5;
 
     private final Row[] rows = new Row[ROWS];
-    private final Tape tape = new Tape();
-    private final Reader reader = new Reader(tape);
+    private final Reader reader = new Reader();
     private final Office now = new Office();
     private final Acts acts = new Acts();
     private final Office[] images = new Office[IMAGES];
     private final Means means = new Means();
     private final Sorter sorter = new Sorter();
-    private final Asker asker = new Asker(now);
+    private final Asker asker = new Asker();
     private int latestFault = 0;
     private int latestFinding = 0;
 
@@ -100,16 +99,16 @@ public final class TopSheet {
         if (n < 1 || n > WORD_BYTES) {
             return BAD;
         }
-        if (!tape.hasRoom(n)) {
+        if (!reader.tape.hasRoom(n)) {
             return FULL;
         }
-        tape.join(w, n);
-        return tape.length;
+        reader.tape.join(w, n);
+        return reader.tape.length;
     }
 
     public int office() {
         boolean isRead = reader.read();
-        tape.length = 0;
+        reader.tape.length = 0;
         if (!isRead) {
             latestFault = reader.faultNumber;
             return FAULTY - reader.first;
@@ -388,7 +387,7 @@ public final class TopSheet {
         if (!now.hasSheet(sheet) || what < 0 || what > 1) {
             return BAD;
         }
-        return asker.begin(sheet, what);
+        return asker.begin(now, sheet, what);
     }
 
     public int trace(int i) {
@@ -410,7 +409,7 @@ public final class TopSheet {
             case 5:
                 return Integer.bitCount(now.goneSet());
             case 6:
-                return tape.length;
+                return reader.tape.length;
             default:
                 return BAD;
         }
@@ -539,7 +538,7 @@ public final class TopSheet {
         private static final int FIGURES = 3, MOST_WIND = 100, MOST_STONES = 3;
         private static final int MOST_WORTH = 99, MOST_SHEETS = 12;
 
-        private final Tape tape;
+        private final Tape tape = new Tape();
         private final Office draft = new Office();
         private int type = END;
         private int first = 0;
@@ -547,10 +546,6 @@ public final class TopSheet {
         private int value = 0;
         private int told = 0;
         private int faultNumber = 0;
-
-        Reader(Tape tape) {
-            this.tape = tape;
-        }
 
         /** Whether the whole tape is an office; if not, faultNumber and first tell why and where. */
         boolean read() {
@@ -1134,13 +1129,8 @@ public final class TopSheet {
         private static final int[] SIZE_BODIES = {10, 11, 11, 12, 14, 13};
         private static final int[] MARK_BODIES = {20, 21, 22, 24, 21, 23};
 
-        private final Office office;
         private final int[] bodies = new int[TRACED];
         private int left = 0;
-
-        Asker(Office office) {
-            this.office = office;
-        }
 
         static boolean isKind(int kind) {
             return kind >= 0 && kind < KINDS;
@@ -1157,12 +1147,12 @@ public final class TopSheet {
             return false;
         }
 
-        int begin(int sheet, int what) {
+        int begin(Office office, int sheet, int what) {
             left = 0;
-            return gives(this, bodyFor(sheet, what), sheet, 0);
+            return gives(this, office, bodyFor(office, sheet, what), sheet, 0);
         }
 
-        private int bodyFor(int sheet, int what) {
+        private static int bodyFor(Office office, int sheet, int what) {
             int kind = office.sort[sheet];
             if (!isKind(kind)) {
                 return 0;
@@ -1177,7 +1167,7 @@ public final class TopSheet {
             }
         }
 
-        private static int gives(Asker asker, int body, int sheet, int depth) {
+        private static int gives(Asker asker, Office office, int body, int sheet, int depth) {
             if (depth > DEEPEST) {
                 return 0;
             }
@@ -1185,25 +1175,27 @@ public final class TopSheet {
             int deeper = depth + 1;
             switch (body) {
                 case 10:
-                    return asker.office.worth[sheet];
+                    return office.worth[sheet];
                 case 11:
-                    return gives(asker, 10, sheet, deeper) + gives(asker, asker.bodyFor(sheet, MARK), sheet, deeper);
+                    return gives(asker, office, 10, sheet, deeper)
+                        + gives(asker, office, bodyFor(office, sheet, MARK), sheet, deeper);
                 case 12:
-                    return -gives(asker, 11, sheet, deeper);
+                    return -gives(asker, office, 11, sheet, deeper);
                 case 13:
-                    return gives(asker, 10, sheet, deeper) - 100;
+                    return gives(asker, office, 10, sheet, deeper) - 100;
                 case 14:
-                    return 2 * gives(asker, 11, sheet, deeper);
+                    return 2 * gives(asker, office, 11, sheet, deeper);
                 case 20:
                     return sheet;
                 case 21:
-                    return gives(asker, 20, sheet, deeper) + asker.office.need[sheet];
+                    return gives(asker, office, 20, sheet, deeper) + office.need[sheet];
                 case 22:
-                    return gives(asker, 21, sheet, deeper) - 1000;
+                    return gives(asker, office, 21, sheet, deeper) - 1000;
                 case 23:
-                    return gives(asker, 20, sheet, deeper) - gives(asker, asker.bodyFor(sheet, SIZE), sheet, deeper);
+                    return gives(asker, office, 20, sheet, deeper)
+                        - gives(asker, office, bodyFor(office, sheet, SIZE), sheet, deeper);
                 case 24:
-                    return 2 * gives(asker, 22, sheet, deeper);
+                    return 2 * gives(asker, office, 22, sheet, deeper);
                 default:
                     return 0;
             }

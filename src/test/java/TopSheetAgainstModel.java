@@ -763,7 +763,7 @@ public final class TopSheetAgainstModel {
                 same("blank(" + d + ")", x.blank(d), m.blank(d));
                 break;
             case 4:
-                int by = any(8) == 0 ? new int[] {0, 1, 999999, 1000000, -5}[any(5)] : 1 + any(999999);
+                int by = run % 3 > 0 && any(8) == 0 ? new int[] {0, 1, 999999, 1000000, -5}[any(5)] : 1 + any(999999);
                 if (any(2) == 0) same("quarter(" + by + ")", x.quarter(by), m.quarter(by));
                 break;
             case 5:
@@ -876,7 +876,9 @@ public final class TopSheetAgainstModel {
         }
         while (calls < CALLS - 110) {
             int c = any(40);
-            if (c == 0) newOffice(x, m);
+            // Every third run lets one office grow old.
+            if (c == 0 && run % 3 == 0) same("quarter(" + calls + ")", x.quarter(calls), m.quarter(calls));
+            else if (c == 0) newOffice(x, m);
             else if (c < 7) rowCall(x, m);
             else if (c < 19) actCall(x, m);
             else if (c < 30) foretoldCall(x, m);

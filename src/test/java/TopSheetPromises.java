@@ -154,6 +154,15 @@ public final class TopSheetPromises {
         due("it has its items", x.set(7, 4, 1), 1);
         due("and no more", x.set(7, 5, 1), NO_PLACE);
         due("no items, no place", x.set(0, 0, 1), NO_PLACE);
+        TopSheet y = officeOf(ALWAYS + "desk 9 0;sheet bill 0 1 0;");
+        due("row", y.row(0, 0, 40), 40);
+        due("its first item is 0", y.beach(0, 0, 1, 1), 1);
+        due("its last item is 0", y.beach(0, 39, 1, 1), 1);
+        y.set(0, 0, 7);
+        y.set(0, 39, 7);
+        due("a row anew", y.row(0, 2, 40), 40);
+        due("its first item is 0 anew", y.beach(0, 0, 1, 1), 1);
+        due("its last item is 0 anew", y.beach(0, 39, 1, 1), 1);
     }
 
     private static void setPromise() {
@@ -258,6 +267,12 @@ public final class TopSheetPromises {
         faultOf("  \n", 3, 1);
         faultOf("desk", 0, 1);
         faultOf("winds", 0, 1);
+        faultOf("winda", 0, 1);
+        faultOf("windz", 0, 1);
+        faultOf("wind`", 4, 1);
+        faultOf("wind{", 4, 1);
+        faultOf("wind/", 4, 1);
+        faultOf("wind:", 4, 1);
         faultOf("Wind", 0, 1);
         faultOf("wind", 4, 1);
         faultOf("wind;", 4, 1);
@@ -674,6 +689,11 @@ public final class TopSheetPromises {
         y.blank(0);
         due("eight", y.order(0, 9, -1), NONE);
         due("eight", y.order(0, 9, 0), NONE);
+        TopSheet all = officeOf(ALWAYS + "desk 9 0;desk 9 0;sheet bill 0 1 0;"
+            + "sheet bill 1 6 0;sheet bill 1 9 0;");
+        due("all is lost", all.order(1, 9, -1), 15);
+        due("the first by numbers", all.order(1, 9, 0), 1);
+        due("the first by numbers", all.order(1, 9, 1), 2);
         TopSheet z = officeOf(ALWAYS + "desk 9 0;");
         due("empty", z.order(0, 9, -1), 0);
         due("empty", z.order(0, 9, 0), NONE);
@@ -719,6 +739,10 @@ public final class TopSheetPromises {
             + "sheet bill 1 6 0;");
         // The lowest of two of 4 is the slate, the bill of 6 comes on desk 0, the stone keeps desk 1.
         due("the lowest of several; below 0", y.lend(0, 1), 4 - 6);
+        TopSheet z = officeOf(ALWAYS + "desk 9 0;desk 9 0;desk 9 1;sheet slate 0 4 0;sheet bill 0 4 0;"
+            + "sheet bill 1 6 0;sheet bill 2 9 0;");
+        due("the slate is lent, the bill of 6 comes", z.lend(0, 1), 4 + 6 - 6);
+        due("a stone keeps what comes", z.lend(1, 2), 6 - 9);
         due("one has none", y.lend(0, 2), NONE);
         due("one has none", y.lend(2, 1), NONE);
     }
