@@ -1,61 +1,8 @@
 /** Promise by promise: ordinary inputs, the edges that the document names, and wrong inputs. */
-public final class TopSheetPromises {
-    private static final int NONE = -1000000, BAD = -1000001, STATE = -1000002, FULL = -1000003;
-    private static final int NO_ROW = -1000011, NO_PLACE = -1000012, NO_KIND = -1000013;
-    private static final int NO_SIZE = -1000014, NO_STORE = -1000015;
-    private static final int MIN = Integer.MIN_VALUE, MAX = Integer.MAX_VALUE;
-
-    private static final String ALWAYS = "wind 100 100 100 100 100 100 100 100 100 100 100 100;";
-    private static final String NEVER = "wind 0 0 0 0 0 0 0 0 0 0 0 0;";
+public final class TopSheetPromises extends Check {
     /** Desk 0: 0 a bill of 5, 1 a will of 7, 2 a warrant of 3; desk 1: 3 a slate of 1, 4 a blank of 2. */
     private static final String TWO_DESKS = ALWAYS + "desk 5 1;desk 3 0;sheet bill 0 5 0;"
         + "sheet will 0 7 1;sheet warrant 0 3 12;sheet slate 1 1 2;sheet blank 1 2 3;";
-
-    private static int wrong = 0;
-
-    private static void due(String call, int got, int want) {
-        if (got != want) {
-            wrong++;
-            System.out.println(call + " answered " + got + ", due is " + want);
-        }
-    }
-
-    private static void write(TopSheet x, String text) {
-        for (int i = 0; i < text.length(); i += 8) {
-            long w = 0;
-            int n = Math.min(8, text.length() - i);
-            for (int k = 0; k < n; k++) {
-                w = w << 8 | text.charAt(i + k) & 255;
-            }
-            x.feed(w, n);
-        }
-    }
-
-    private static TopSheet officeOf(String text) {
-        TopSheet x = new TopSheet();
-        write(x, text);
-        int desks = x.office();
-        if (desks < 1) {
-            wrong++;
-            System.out.println("not read: " + text + " " + desks + ", fault " + x.fault());
-        }
-        return x;
-    }
-
-    private static void faultOf(String text, int place, int number) {
-        TopSheet x = new TopSheet();
-        write(x, text);
-        due("office() of '" + text + "'", x.office(), -1000100 - place);
-        due("fault() of '" + text + "'", x.fault(), number);
-        due("tape after '" + text + "'", x.count(6), 0);
-        due("desks after '" + text + "'", x.count(1), 0);
-    }
-
-    private static void desksOf(String text, int desks) {
-        TopSheet x = new TopSheet();
-        write(x, text);
-        due("office() of '" + text + "'", x.office(), desks);
-    }
 
     public static void main(String[] args) {
         newObject();
@@ -93,10 +40,7 @@ public final class TopSheetPromises {
         tracePromise();
         countPromise();
         statusPromise();
-        System.out.println(wrong == 0 ? "all promises hold" : wrong + " answers are not as due");
-        if (wrong != 0) {
-            System.exit(1);
-        }
+        end("all promises hold");
     }
 
     private static void newObject() {
