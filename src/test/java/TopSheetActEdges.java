@@ -8,6 +8,7 @@ public final class TopSheetActEdges extends Check {
         gustsOfEmptyDesks();
         aGustTakesFromEach();
         liftedFromEachPlace();
+        liftedFromAFullLastDesk();
         liftOfGone();
         metByTheQuarter();
         metStaysMet();
@@ -125,6 +126,29 @@ public final class TopSheetActEdges extends Check {
         }
         TopSheet alone = officeOf(NEVER + "desk 1 0;" + BILL);
         due("alone, without room", alone.lift(0), 0);
+    }
+
+    private static void liftedFromAFullLastDesk() {
+        TopSheet x = officeOf(NEVER + "desk 9 0;desk 9 0;desk 9 0;desk 9 0;" + ("sheet bill 3 1 12;").repeat(9)
+            + ("sheet bill 2 1 12;").repeat(3));
+        for (int k = 12; k < 16; k++) {
+            x.blank(2);
+        }
+        for (int s = 0; s < 9; s++) {
+            due("the lowest of nine", x.lift(0), s == 0 ? 8 : 0);
+            due("each of nine", x.lift(s), s == 0 ? 0 : 9 - s);
+            x.undo();
+            x.undo();
+            x.lift(0);
+        }
+        pile("lifted and undone", x, 3, 1, 2, 3, 4, 5, 6, 7, 8, 0);
+        pile("beside it", x, 2, 9, 10, 11, 12, 13, 14, 15);
+        due("taken from it", x.lay(4, 0), 1);
+        due("and from the other", x.lay(10, 0), 2);
+        due("and laid there", x.lay(10, 3), 9);
+        due("no room", x.lay(9, 3), FULL);
+        pile("then", x, 3, 1, 2, 3, 5, 6, 7, 8, 0, 10);
+        pile("then", x, 2, 9, 11, 12, 13, 14, 15);
     }
 
     // lift: BAD; STATE: it is GONE

@@ -599,6 +599,13 @@ public final class TopSheetForetoldEdges extends Check {
             due("none at " + i, x.beach(0, i, 0, 1), NO_PLACE);
             due("status", x.status(), 2);
         }
+        x.row(2, 2, 40);
+        due("the last of forty", x.beach(2, 39, 1, 9), 1);
+        due("none, at the end of forty, of a gust that takes one", x.beach(2, 40, 0, 1), 0);
+        due("the last of forty, of gusts that take none", x.beach(2, 39, 1, 0), 0);
+        x.blank(0);
+        x.set(2, 39, 1);
+        due("the last of forty, of two", x.beach(2, 39, 1, 2), 0);
         x.row(1, 0, 0);
         due("a row of none", x.beach(1, 0, 0, 0), 1);
         due("one of a row of none", x.beach(1, 0, 1, 1), NO_PLACE);
